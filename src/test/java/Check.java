@@ -1,0 +1,56 @@
+/** Compares answers with those that are due, and tells the wrong ones. */
+final class Check {
+    interface Call {
+        void run();
+    }
+
+    private final String name;
+    private int rows;
+    private int wrong;
+
+    Check(String name) {
+        this.name = name;
+    }
+
+    void due(String what, long got, long want) {
+        tell(what, got == want, String.valueOf(got), String.valueOf(want));
+    }
+
+    void due(String what, boolean got, boolean want) {
+        tell(what, got == want, String.valueOf(got), String.valueOf(want));
+    }
+
+    void dueDouble(String what, double got, double want) {
+        tell(what, got == want, String.valueOf(got), String.valueOf(want));
+    }
+
+    void dueText(String what, String got, String want) {
+        tell(what, got.equals(want), got, want);
+    }
+
+    /** The call must throw exactly this exception, not one of a class below it. */
+    void fails(String what, Class<? extends RuntimeException> want, Call call) {
+        String got = "nothing";
+        try {
+            call.run();
+        } catch (RuntimeException e) {
+            got = e.getClass().getName();
+        }
+        tell(what, got.equals(want.getName()), got, want.getName());
+    }
+
+    void end() {
+        System.out.println(name + ": " + rows + " rows, " + wrong + " wrong");
+        if (wrong != 0) {
+            System.exit(1);
+        }
+    }
+
+    private void tell(String what, boolean isRight, String got, String want) {
+        rows++;
+        if (!isRight) {
+            wrong++;
+            System.out.println(name + ": " + what + " answered " + got + ", due is " + want);
+        }
+    }
+}
