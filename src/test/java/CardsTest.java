@@ -83,6 +83,11 @@ public final class CardsTest {
     }
 
     private static void decide() {
+        Scrumward v = Match.stopped(0);
+        Match.playAndStop(v, 1000);
+        v.card(0, 1, 'b');
+        Match.playAndStop(v, 479);
+        CHECK.due("30 since it was shown", v.decide(0, 1, false), true);
         Scrumward x = Match.stopped(0);
         x.card(0, 1, 'b');
         x.card(0, 2, 'b');
@@ -142,6 +147,11 @@ public final class CardsTest {
         CHECK.due("31 back", x.comeBack(0, 1), 15);
         CHECK.due("4 at 50", x.placeOf(0, 1), 50);
         CHECK.fails("31 on the field", UnsupportedOperationException.class, () -> x.comeBack(0, 1));
+        Scrumward v = Match.stopped(0);
+        Match.playAndStop(v, 500);
+        v.card(0, 1, 'y');
+        Match.playAndStop(v, 599);
+        CHECK.fails("31 too early since it was shown", UnsupportedOperationException.class, () -> v.comeBack(0, 1));
         Scrumward y = Match.stopped(0);
         Match.playAndStop(y, 2000);
         y.card(0, 1, 'y');
@@ -218,6 +228,10 @@ public final class CardsTest {
         CHECK.fails("31 gone", UnsupportedOperationException.class, () -> x.comeBack(0, 5));
         CHECK.fails("32 too late is not the bench", UnsupportedOperationException.class, () -> x.replace(0, 6, 3, 't'));
         Scrumward y = Match.stopped(0);
+        Match.playAndStop(y, 1000);
+        y.replace(1, 2, 18, 'h');
+        Match.playAndStop(y, 720);
+        CHECK.due("31 since the replacement", y.comeBack(1, 2), 15);
         y.replace(1, 1, 16, 'b');
         CHECK.due("31 at once", y.comeBack(1, 1), 15);
         CHECK.fails("31 the bench", UnsupportedOperationException.class, () -> y.comeBack(1, 16));

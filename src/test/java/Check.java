@@ -28,15 +28,22 @@ final class Check {
         tell(what, got.equals(want), got, want);
     }
 
-    /** The call must throw exactly this exception, not one of a class below it. */
+    /** The call must throw exactly this exception, not one of a class below it, and do so itself. */
     void fails(String what, Class<? extends RuntimeException> want, Call call) {
         String got = "nothing";
         try {
             call.run();
         } catch (RuntimeException e) {
-            got = e.getClass().getName();
+            got = nameOf(e);
         }
         tell(what, got.equals(want.getName()), got, want.getName());
+    }
+
+    /** The name of what was thrown, with the place where it was if a throw of the program did not make it. */
+    static String nameOf(RuntimeException e) {
+        StackTraceElement[] rows = e.getStackTrace();
+        boolean isOwn = rows.length > 0 && rows[0].getClassName().equals("Scrumward") && e.getMessage() != null;
+        return e.getClass().getName() + (isOwn ? "" : " of the machine or the library");
     }
 
     void end() {

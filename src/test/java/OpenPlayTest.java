@@ -71,9 +71,12 @@ public final class OpenPlayTest {
         x.pass(1);
         CHECK.due("8 30 seconds", x.carry(50), 0);
         Scrumward y = Match.ruck(0, 50);
+        y.pass(100);
         y.offend(1, 'p', true);
-        y.pass(30);
-        CHECK.fails("8 seconds of a ruck", IllegalStateException.class, y::blow);
+        y.pass(29);
+        CHECK.due("8 29 seconds of a ruck", y.offend(1, 's', false), 1);
+        y.pass(1);
+        CHECK.fails("8 30 seconds of a ruck", IllegalStateException.class, y::blow);
     }
 
     /** An advantage whose gain is there is over only when it is looked at. */
@@ -85,7 +88,7 @@ public final class OpenPlayTest {
         x.tackle(7);
         CHECK.due("17 the ball is ahead, but not theirs", x.offend(1, 's', false), 1);
         x.win(0, 9);
-        CHECK.due("19 won ahead", x.carry(80), 0);
+        CHECK.due("19 won ahead", x.offend(1, 's', false), 0);
         Scrumward y = Match.open(1, 60);
         y.offend(1, 'p', true);
         y.carry(80);
@@ -242,6 +245,18 @@ public final class OpenPlayTest {
         z.carry(60);
         z.tackle(10);
         CHECK.due("19 those of the ruck before are free", z.win(0, 8), 2);
+        for (int team = 0; team < 2; team++) {
+            Scrumward v = Match.ruck(0, 50);
+            v.setPlace(0, 1, 41);
+            v.join(0, 1);
+            v.join(1, 1);
+            v.setPlace(team, 2, team == 0 ? 42 : 58);
+            CHECK.due("5 the player 1 is in it", v.isOffside(team, 2), true);
+            v.offend(0, 'p', true);
+            v.blow();
+            CHECK.due("3 the player 1 is free", v.setPlace(team, 1, 50), team == 0 ? 41 : 60);
+            CHECK.due("3 the player 8 or 7 too", v.setPlace(team, 8 - team, 50), 50);
+        }
     }
 
     private static void winErrors() {

@@ -214,6 +214,11 @@ public final class PlayersTest {
             CHECK.due("6 two props again", y.isContested(), true);
             y.replace(team, 6, 16, 't');
             CHECK.due("6 three", y.isContested(), true);
+            for (int player = 1; player <= 3; player++) {
+                Scrumward z = Match.stopped(0);
+                z.card(team, player, 'y');
+                CHECK.due("6 without " + player, z.isContested(), false);
+            }
         }
     }
 }

@@ -192,6 +192,14 @@ public final class ToComeTest {
         CHECK.due("27 anew", x.reset(), 's');
         CHECK.due("27 anew", x.reset(), 's');
         CHECK.due("27 and the third", x.reset(), 'f');
+        Scrumward v = Match.open(0, 35);
+        v.offend(0, 's', true);
+        v.blow();
+        v.restart(1);
+        v.reset();
+        v.reset();
+        v.reset();
+        CHECK.due("27 whose scrum it is, not whose ball it was", v.toCome('t'), 1);
         CHECK.fails("27 new", IllegalStateException.class, () -> new Scrumward().reset());
         CHECK.fails("27 to come", IllegalStateException.class, () -> Match.given(0, 's', 5).reset());
         CHECK.fails("27 ruck", IllegalStateException.class, () -> Match.ruck(0, 5).reset());
