@@ -39,6 +39,25 @@ final class Check {
         tell(what, got.equals(want.getName()), got, want.getName());
     }
 
+    /** As fails, and nothing that the match holds may have changed. */
+    void refuses(String what, Class<? extends RuntimeException> want, Scrumward x, Call call) {
+        String before = State.of(x);
+        fails(what, want, call);
+        boolean isSame = State.of(x).equals(before);
+        tell(what + ", what the match holds", isSame, isSame ? "the same" : State.of(x), before);
+    }
+
+    /** The call must throw nothing. */
+    void works(String what, Call call) {
+        String got = "nothing thrown";
+        try {
+            call.run();
+        } catch (RuntimeException e) {
+            got = nameOf(e);
+        }
+        tell(what, got.equals("nothing thrown"), got, "nothing thrown");
+    }
+
     /** The name of what was thrown, with the place where it was if a throw of the program did not make it. */
     static String nameOf(RuntimeException e) {
         StackTraceElement[] rows = e.getStackTrace();

@@ -1,6 +1,88 @@
 /** Matches that have come to a certain point. */
 final class Match {
+    /** Each state that a match can be in: without a period, with something to come, or with play that goes on. */
+    static final String[] STATES = {"new", "between", "over", "k", "d", "s", "l", "p", "f", "g", "c", "open", "ruck",
+        "scrum", "lineout"};
+
     private Match() {
+    }
+
+    /** A match in the state; what is to come is for the team 0, which has the ball at its goal in open play. */
+    static Scrumward in(String state) {
+        switch (state) {
+            case "new":
+                return new Scrumward();
+            case "between":
+                return afterPeriods(new Scrumward(), 1);
+            case "over":
+                return afterPeriods(new Scrumward(), 2);
+            case "open":
+                return open(0, goal(0));
+            case "ruck":
+                return ruck(0, 50);
+            case "scrum":
+                return scrum(0, 50);
+            case "lineout":
+                return started(coming('l'));
+            default:
+                return coming(state.charAt(0));
+        }
+    }
+
+    /** In the first period something of the kind is to come for the team 0. */
+    static Scrumward coming(char kind) {
+        Scrumward x;
+        switch (kind) {
+            case 'k':
+                return stopped(0);
+            case 'd':
+                x = open(0, 0);
+                x.ground();
+                return x;
+            case 'l':
+                x = open(1, 50);
+                x.kickOut(50, true);
+                return x;
+            case 'g':
+                x = given(0, 'p', 50);
+                x.choose('g', 0);
+                return x;
+            case 'c':
+                return conversion(0);
+            default:
+                return given(0, kind, 50);
+        }
+    }
+
+    private static Scrumward started(Scrumward x) {
+        x.restart(1);
+        return x;
+    }
+
+    /** This match after so many more periods, without a score. */
+    static Scrumward afterPeriods(Scrumward x, int count) {
+        for (int i = 0; i < count; i++) {
+            x.begin(0);
+            playAndStop(x, x.period() < 2 ? 2400 : 600);
+        }
+        return x;
+    }
+
+    /** The match that must have a winner, ahead of this period, without a score. */
+    static Scrumward aheadOf(int period) {
+        Scrumward x = new Scrumward();
+        x.law('o', 1);
+        return afterPeriods(x, period);
+    }
+
+    /** Lets so many seconds of play pass, with stops, over periods if need be; play is stopped then. */
+    static void playLong(Scrumward x, int seconds) {
+        for (int left = seconds; left > 0; left -= 600) {
+            playAndStop(x, Math.min(left, 600));
+            if (x.period() < 0) {
+                x.begin(0);
+            }
+        }
     }
 
     /** The player 8 of the team carries the ball at the place, in the first period. */
