@@ -297,6 +297,11 @@ public final class DecisionBoundsTest {
         x.restart(1);
         x.pass(16);
         CHECK.dueDouble("39 a scrum", x.share(1), 0.09375f);
+        x.win(0, 11);
+        x.pass(31);
+        CHECK.dueDouble("39 its first second and these", x.share(0), 32.0f / 63.0f);
+        x.pass(1);
+        CHECK.dueDouble("39 and one more", x.share(0), 33.0f / 64.0f);
         Scrumward y = Match.scrum(0, 50);
         y.pass(1);
         CHECK.dueDouble("39 none in open play", y.share(0), 0.0f);

@@ -296,6 +296,9 @@ public final class KickBoundsTest {
                 Scrumward y = Match.given(team, 'f', 33);
                 CHECK.due("25 a free kick", y.choose('t', place), 'l');
                 behind("25 a free kick", y, 'l', 1 - team, place);
+                y.restart(1);
+                y.win(team, 9);
+                CHECK.due("25 the lineout is at the told place", y.placeOf(team, 9), place);
             }
             for (char kind : new char[] {'p', 'f'}) {
                 Scrumward x = Match.given(team, kind, 33);

@@ -1,4 +1,8 @@
 import java.io.IOException;
+import java.lang.reflect.Constructor;
+import java.lang.reflect.Field;
+import java.lang.reflect.Method;
+import java.lang.reflect.Modifier;
 import java.nio.file.Files;
 import java.nio.file.Paths;
 import java.util.List;
@@ -19,6 +23,9 @@ public final class LanguageTest {
         {"4 an object's own text or hash", "\\b(hashCode|toString|equals)\\("},
         {"a line too long", "^.{121,}"}};
     private static final int LONGEST_METHOD = 60;
+    private static final int MOST_PARAMETERS = 7;
+    private static final int MOST_CLASSES = 12;
+    private static final int MOST_FIELDS = 20;
 
     public static void main(String[] args) throws IOException {
         Check check = new Check("LanguageTest");
@@ -38,6 +45,33 @@ public final class LanguageTest {
                 start = 0;
             }
         }
+        sizes(check);
         check.end();
+    }
+
+    /** Rules 5 and 11: how many classes, fields and parameters, and that static fields are final. */
+    private static void sizes(Check check) {
+        Class<?>[] inside = Scrumward.class.getDeclaredClasses();
+        check.due("11 the number of classes", inside.length + 1 <= MOST_CLASSES, true);
+        sizesOf(check, Scrumward.class);
+        for (Class<?> one : inside) {
+            sizesOf(check, one);
+        }
+    }
+
+    private static void sizesOf(Check check, Class<?> one) {
+        int fields = 0;
+        for (Field field : one.getDeclaredFields()) {
+            boolean isStatic = Modifier.isStatic(field.getModifiers());
+            fields += isStatic ? 0 : 1;
+            check.due("5 static and not final: " + field, isStatic && !Modifier.isFinal(field.getModifiers()), false);
+        }
+        check.due("11 the fields of " + one, fields <= MOST_FIELDS, true);
+        for (Method method : one.getDeclaredMethods()) {
+            check.due("11 the parameters of " + method, method.getParameterCount() <= MOST_PARAMETERS, true);
+        }
+        for (Constructor<?> constructor : one.getDeclaredConstructors()) {
+            check.due("11 the parameters of " + constructor, constructor.getParameterCount() <= MOST_PARAMETERS, true);
+        }
     }
 }
